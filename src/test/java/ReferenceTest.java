@@ -11,7 +11,9 @@ import java.util.Set;
  * each time.
  */
 public final class ReferenceTest {
-    private static final int CALLS = 480;
+    /** With the questions behind each settle some 440 calls: the document allows 512. */
+    private static final int STEPS = 320;
+    private static final int QUESTIONS = 4;
 
     public static void main(String[] args) {
         for (int seed = 1; seed <= 400; seed++) {
@@ -19,8 +21,16 @@ public final class ReferenceTest {
             run(seed + 10000, new Mix(6, 2, 2, 60, 60));
             run(seed + 20000, new Mix(16, 4, 2, 400, 400));
             run(seed + 30000, new Mix(2, 1, 1, 15, 15));
+            for (int again = 4; again < 8; again++) {
+                runOfLimits(seed + 10000 * again);
+            }
         }
         Check.end();
+    }
+
+    /** Seeds that are near each other begin with nearly the same numbers, so they are put apart. */
+    private static Random seeded(int seed) {
+        return new Random(seed * 0x9E3779B97F4A7C15L);
     }
 
     /** How many sources, items and bags take part, how far clocks go, and how far sources are apart. */
@@ -28,19 +38,64 @@ public final class ReferenceTest {
     }
 
     private static void run(int seed, Mix mix) {
-        Random random = new Random(seed);
+        Random random = seeded(seed);
         EventOrder x = new EventOrder();
         Slow slow = new Slow();
         for (int i = 0; i < mix.sources(); i++) {
             compare(seed, "source()", x::source, slow::source);
         }
-        for (int i = mix.sources(); i < CALLS; i++) {
+        for (int i = mix.sources(); i < STEPS; i++) {
             step(seed, random, mix, x, slow);
         }
     }
 
     private static void compare(int seed, String call, Check.Call got, Check.Call want) {
         Check.dueText("seed " + seed + ": " + call, Check.told(want), Check.told(got));
+    }
+
+    /**
+     * Limits that hidden offsets allow with little to spare, and now and then one that they do not:
+     * so rings are long and their sums near 0.
+     */
+    private static void runOfLimits(int seed) {
+        Random random = seeded(seed);
+        int sources = 1 + random.nextInt(16);
+        int reach = 1 + random.nextInt(sources);
+        long[] hidden = new long[sources];
+        EventOrder x = new EventOrder();
+        Slow slow = new Slow();
+        for (int s = 0; s < sources; s++) {
+            hidden[s] = random.nextInt(201) - 100;
+            compare(seed, "source()", x::source, slow::source);
+        }
+        int spare = 1 + random.nextInt(6);
+        int few = 1 + random.nextInt(3);
+        for (int i = 0; i < sources * few; i++) {
+            int a = random.nextInt(sources);
+            int b = (a + (random.nextInt(40) > 0 ? 1 : 0) + random.nextInt(reach)) % sources;
+            long spared = random.nextInt(spare) - (random.nextInt(12) == 0 ? 1 + random.nextInt(12) : 0);
+            addLimit(seed, x, slow, i, a, b, hidden[a] - hidden[b] + spared);
+            if (i % (3 * few) == 3 * few - 1) {
+                compareSettled(seed, x, slow);
+            }
+        }
+    }
+
+    private static void addLimit(int seed, EventOrder x, Slow slow, int i, int a, int b, long weight) {
+        compare(seed, "event", () -> x.event(a, i, 0, 0, 0), () -> slow.event(a, i, 0, 0, 0));
+        compare(seed, "event", () -> x.event(b, i, 3, 0, weight + 1), () -> slow.event(b, i, 3, 0, weight + 1));
+        compare(seed, "need", () -> x.need(2 * i + 1, 2 * i + 2), () -> slow.need(2 * i + 1, 2 * i + 2));
+    }
+
+    private static void compareSettled(int seed, EventOrder x, Slow slow) {
+        compare(seed, "settle()", x::settle, slow::settle);
+        for (int s = 0; s < slow.sources; s++) {
+            int a = s;
+            compare(seed, "ring(" + s + ")", () -> x.ring(a), () -> slow.ring(a));
+            compare(seed, "offset(" + s + ")", () -> x.offset(a), () -> slow.offset(a));
+            int b = (s * 5 + 3) % slow.sources;
+            compare(seed, "bound(" + a + ", " + b + ")", () -> x.bound(a, b), () -> slow.bound(a, b));
+        }
     }
 
     private static int near(Random random, int from, int to) {
@@ -67,6 +122,9 @@ public final class ReferenceTest {
             addNeed(seed, random, x, slow);
         } else if (what < 45) {
             compare(seed, "settle()", x::settle, slow::settle);
+            for (int i = 0; i < QUESTIONS; i++) {
+                question(seed, random, mix, x, slow);
+            }
         } else if (what < 50) {
             int e = near(random, 1, Math.max(1, slow.events.size()));
             long clock = aClock(random, mix, random.nextInt(mix.sources()));
@@ -94,7 +152,7 @@ public final class ReferenceTest {
         int a = near(random, 1, count);
         int b = near(random, 1, count);
         boolean swap = a >= 1 && b >= 1 && a <= slow.events.size() && b <= slow.events.size()
-                && slow.events.get(a - 1).clock > slow.events.get(b - 1).clock && random.nextInt(12) > 0;
+                && slow.events.get(a - 1).clock > slow.events.get(b - 1).clock && random.nextInt(100) > 0;
         int first = swap ? b : a;
         int second = swap ? a : b;
         compare(seed, "need(" + first + ", " + second + ")", () -> x.need(first, second),
