@@ -154,6 +154,7 @@ public final class PromisesTest {
         Check.due("3 all in order", 300, x.ordered(7, 0));
         Check.due("3 all in order", 1, x.ordered(7, 299));
         Check.due("3 none more", 0, x.ordered(7, 300));
+        Check.due("3 none implied", 0, x.implied(100, 7));
         Check.due("3 count", 300, x.ask(0, 7));
         Check.dueIndex("3 event 301", () -> x.corrected(301));
         Check.due("3 a correction needs no room", 1, x.correct(300, 1000));
@@ -228,6 +229,7 @@ public final class PromisesTest {
         x.source();
         Check.dueState("5 the first source", () -> x.offset(0));
         x.event(0, 0, 0, 0, 0);
+        x.settle();
         x.event(0, 0, 0, 0, 9);
         dueUnsettled("5 an event", x);
         x.source();
@@ -539,7 +541,10 @@ public final class PromisesTest {
         Check.due("12 settle", 1, x.settle());
         Check.due("12 highest", TOP, x.corrected(2));
         Check.due("12 lowest", -TOP, x.corrected(1));
-        Check.due("12 what it was can come again", 4, x.event(0, 0, 0, 0, 5));
+        x.event(0, 40, 3, 50, 0);
+        x.event(0, 40, 3, 50, 1);
+        Check.due("12 all the same, with other numbers than 0", 0, x.correct(4, 1));
+        Check.due("12 what it was can come again", 6, x.event(0, 0, 0, 0, 5));
         Check.due("12 what it is cannot", 0, x.event(0, 0, 0, 0, -TOP));
     }
 
