@@ -4,25 +4,44 @@ final class Check {
         long answer();
     }
 
+    interface Test {
+        void run();
+    }
+
     private static int wrong = 0;
     private static int made = 0;
+    private static String heading = "";
 
     private Check() {
     }
 
-    static void due(String what, long want, long got) {
-        made++;
-        if (got != want) {
-            wrong++;
-            System.out.println(what + " answered " + got + ", due is " + want);
+    /**
+     * The test of one sentence of the document, which is told with every wrong answer. A test that
+     * breaks off is wrong too, and leaves the others to run; so is one that asks nothing.
+     */
+    static void sentence(String words, Test test) {
+        int before = made;
+        heading = "\"" + words + "\": ";
+        try {
+            test.run();
+        } catch (RuntimeException e) {
+            due(e + " broke off the test, wrong answers", 0, 1);
         }
+        if (made == before) {
+            due("answers asked for", 1, 0);
+        }
+        heading = "";
+    }
+
+    static void due(String what, long want, long got) {
+        dueText(what, Long.toString(want), Long.toString(got));
     }
 
     static void dueText(String what, String want, String got) {
         made++;
         if (!want.equals(got)) {
             wrong++;
-            System.out.println(what + " answered " + got + ", due is " + want);
+            System.out.println(heading + what + " answered " + got + ", due is " + want);
         }
     }
 
