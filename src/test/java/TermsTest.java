@@ -250,6 +250,16 @@ public final class TermsTest {
             Check.due(count + " sources, sum 0", 1, inARing(count, 0).settle());
             Check.due(count + " sources, sum -1", -count, inARing(count, -1).settle());
         }
+        EventOrder x = Given.sources(5);
+        Given.limit(x, 0, 0, 0);
+        Given.limit(x, 0, 1, 2);
+        Given.limit(x, 1, 0, -2);
+        close(x, 2, 3, 4);
+        Given.dueRing("beside rows of sum 0 with fewer and lesser sources", x, 2, 3, 4);
+        close(x, 3, 4);
+        Given.limit(x, 1, 2, 5);
+        Given.limit(x, 2, 1, -5);
+        Given.dueRing("beside rows of sum 0 with as many and lesser sources", x, 3, 4);
     }
 
     private static void ringOfFarSums() {
@@ -504,6 +514,11 @@ public final class TermsTest {
         Given.limit(z, 2, 1, -4);
         z.settle();
         Check.due("from above, not below 0 then", 0, z.offset(2));
+        EventOrder u = Given.sources(3);
+        Given.limit(u, 1, 0, -10);
+        Given.limit(u, 1, 2, -4);
+        u.settle();
+        Check.due("from below, not above 0 then", 0, u.offset(2));
     }
 
     /** Settled, with source 0 and events 1 and 2 at 0 and 9. */
@@ -590,14 +605,17 @@ public final class TermsTest {
         x.event(1, 0, 0, 8, 1);
         x.need(1, 3);
         dueOrder(x, 2, 1, 3, 5, 4);
-        EventOrder y = Given.sources(3);
+        EventOrder y = Given.sources(2);
         Given.limit(y, 1, 0, Given.LOWEST);
-        Given.limit(y, 2, 1, Given.LOWEST);
         int late = y.event(0, 50, 0, 0, TOP);
-        int early = y.event(2, 50, 0, 0, -TOP);
+        int early = y.event(1, 50, 0, 0, 0);
+        int earlyToo = y.event(1, 51, 0, 0, 0);
+        int lateToo = y.event(0, 51, 0, 0, TOP);
         y.settle();
         Check.due("further apart than an int holds", early, y.ordered(50, 0));
         Check.due("further apart than an int holds", late, y.ordered(50, 1));
+        Check.due("told in order, further apart than an int holds", earlyToo, y.ordered(51, 0));
+        Check.due("told in order, further apart than an int holds", lateToo, y.ordered(51, 1));
     }
 
     private static void orderByPlaces() {
@@ -658,6 +676,11 @@ public final class TermsTest {
         dueImplied("before and at the put", 0, x);
         x.event(0, 100, 0, 0, 11);
         dueImplied("just above", 1, x);
+        EventOrder y = Given.sources(1);
+        y.event(0, 1, 1, 101, 10);
+        y.event(0, 2, 1, 100, 10);
+        y.event(0, 100, 0, 0, 11);
+        dueImplied("put into another bag, and another item put into it", 0, y);
     }
 
     private static void notAboveTheTake() {
